@@ -63,6 +63,7 @@ public final class OpenChainTest {
         int at = RECORD.size();
         due("no record and no end", 0, 68, ArchiveBench.STRANGE, at);
         due("an index's byte", 0, 73, ArchiveBench.STRANGE, at);
+        due("zero", 0, 0, ArchiveBench.STRANGE, at);
         due("method", 1, 3, ArchiveBench.STRANGE, at + 1);
         due("method", 1, 255, ArchiveBench.STRANGE, at + 1);
         due("no name", 2, 0, ArchiveBench.STRANGE, at + 2);
@@ -85,6 +86,10 @@ public final class OpenChainTest {
         Bench.dueOpen("edges", x, 1, ArchiveBench.REFUSED);
         x = with(Bench.record(2, "abcdefgh", 0, 0), Bench.list(69));
         Bench.dueOpen("a name of 8", x, 1, ArchiveBench.REFUSED);
+        x = with(Bench.list(67, 0, 1, 97, 0, 0, 0, 91, 0, 0, 0, 0, 69));
+        Bench.dueOpen("a sum of 0", x, 1, ArchiveBench.REFUSED);
+        x = with(Bench.record(0, "a", 0, 0), Bench.record(0, "b", 0, 0), Bench.list(69));
+        Bench.dueOpen("CHECKs of 0", x, 2, ArchiveBench.REFUSED);
         x = with(Bench.list(67, 3, 0));
         Bench.dueOpen("two faults", x, ArchiveBench.STRANGE, 1);
         x = with(Bench.list(67, 0, 2, 97));

@@ -9,6 +9,7 @@ public final class OpenIndexTest {
 
     public static void main(String[] args) {
         whole();
+        zeros();
         tails();
         shortDirectories();
         entries();
@@ -36,6 +37,11 @@ public final class OpenIndexTest {
                 Bench.due("file " + file + " " + what, x.file(file, what < 6 ? what : what + 10), due[file][what]);
             }
         }
+    }
+
+    private static void zeros() {
+        List<Integer> entries = Bench.joined(Bench.entry(0, "a", 1, 0, 0, 0), Bench.entry(0, "b", 1, 0, 0, 0));
+        Bench.dueOpen("CHECKs of 0", with(Bench.index(DATA, entries, 2)), 2, ArchiveBench.REFUSED);
     }
 
     private static void tails() {

@@ -37,6 +37,12 @@ public final class PackTest {
         Bench.due("pack", x.pack(1), index.size());
         Bench.due("the index", Bench.imageOf(x), index);
         Bench.due("files", x.count(0), 0);
+
+        // What was packed before leaves nothing behind.
+        Bench.writeFile(x, "q", 0);
+        Bench.due("pack", x.pack(1), 16);
+        Bench.due("pack", x.pack(1), 7);
+        Bench.due("pack", x.pack(0), 1);
     }
 
     private static void nothing() {

@@ -14,7 +14,7 @@ public final class TakeTest {
     }
 
     private static void names() {
-        for (String safe : new String[] {"a", ".", "...", "a/b", "a/.", "./a", "a.", "..a", "a..", "a/...", "a/..b/c", "a/b/c/d"}) {
+        for (String safe : new String[] {"a", ".", "...", "a/b", "a/.", "./a", "a.", "..a", "a..", ".a", "a/.b", "b./a", "a/...", "a/..b/c", "a/b/c/d"}) {
             dueName(safe, 1);
         }
         for (String unsafe : new String[] {"/", "/a", "a/", "a//b", "..", "../a", "a/..", "a/../b", "//", "/..", "../"}) {
@@ -60,6 +60,9 @@ public final class TakeTest {
         Bench.due("a file before one of its name", x.take(0), 1);
         Bench.due("take again", x.take(0), 1);
         Bench.due("another name of the same length", x.take(1), 1);
+        x = opened(2, sound, sound);
+        Bench.due("the first of two", x.take(0), 1);
+        Bench.due("the second of two", x.take(1), ArchiveBench.TWICE);
     }
 
     private static void dueTake(int method, int answer, int length, int... squeezed) {
@@ -105,6 +108,8 @@ public final class TakeTest {
         dueTake(2, ArchiveBench.SPOILED, 1, 64, 1);
         dueTake(2, ArchiveBench.SPOILED, 1, 255, 1);
         dueTake(2, ArchiveBench.SPOILED, 4, 0, 1, 64, 0);
+        dueTake(2, ArchiveBench.SPOILED, 36, 0, 1, 64, 0);
+        dueTake(2, ArchiveBench.SPOILED, 37, 0, 1, 65, 0);
         dueTake(2, ArchiveBench.SPOILED, 3, 32, 0);
         dueTake(2, ArchiveBench.SPOILED, 4, 0, 1, 32);
         dueTake(2, ArchiveBench.SPOILED, 4, 0, 1, 32, 1);

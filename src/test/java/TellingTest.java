@@ -2,6 +2,7 @@
 public final class TellingTest {
     public static void main(String[] args) {
         files();
+        filesOfAnotherImage();
         counts();
         Bench.end();
     }
@@ -26,6 +27,19 @@ public final class TellingTest {
         for (int file : new int[] {-1, 2, 6, 7, Integer.MIN_VALUE, Integer.MAX_VALUE}) {
             Bench.due("file " + file, x.file(file, 0), ArchiveBench.REFUSED);
         }
+    }
+
+    private static void filesOfAnotherImage() {
+        ArchiveBench x = new ArchiveBench();
+        Bench.writeFile(x, "abcde", 1, 5, 5, 5, 5);
+        x.pack(0);
+        x.open();
+        Bench.writeFile(x, "z", 2, 1, 2);
+        x.pack(1);
+        Bench.due("open", x.open(), 1);
+        dueFile(x, 0, 2, 1, 1, 3, 2, Bench.check(Bench.list(1, 2)));
+        Bench.due("its name", x.file(0, 16), 'z');
+        Bench.due("no more of its name", x.file(0, 17), ArchiveBench.REFUSED);
     }
 
     private static void dueFile(ArchiveBench x, int file, int... due) {
