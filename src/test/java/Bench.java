@@ -3,26 +3,48 @@ import java.util.List;
 
 /** What the tests share: asking for answers, writing files and images, and the sums and checks of bytes. */
 final class Bench {
+    /** The document's section of words that all promises use. */
+    static final int TERMS = 0;
+
     private static int wrong = 0;
+    private static int asked = 1;
+    private static String sentence = "";
 
     private Bench() {
     }
 
+    /** Begins the test of a sentence, told by the number of its promise and its words in the document. */
+    static void sentence(int promise, String words) {
+        endSentence();
+        sentence = (promise == TERMS ? "Terms" : "Promise " + promise) + " \"" + words + "\": ";
+        asked = 0;
+    }
+
+    private static void endSentence() {
+        if (asked == 0) {
+            wrong++;
+            System.out.println(sentence + "nothing was asked");
+        }
+    }
+
     static void due(String what, int got, int want) {
+        asked++;
         if (got != want) {
             wrong++;
-            System.out.println(what + " answered " + got + ", due is " + want);
+            System.out.println(sentence + what + " answered " + got + ", due is " + want);
         }
     }
 
     static void due(String what, List<Integer> got, List<Integer> want) {
+        asked++;
         if (!got.equals(want)) {
             wrong++;
-            System.out.println(what + " answered " + got + ", due is " + want);
+            System.out.println(sentence + what + " answered " + got + ", due is " + want);
         }
     }
 
     static void end() {
+        endSentence();
         if (wrong != 0) {
             System.out.println(wrong + " answers are not as due");
             System.exit(1);
@@ -93,16 +115,55 @@ final class Bench {
         return state;
     }
 
-    static void dueOpen(String what, ArchiveBench x, int answer, int place) {
+    /** Demands an opening that comes to a number of files. */
+    static void dueOpen(String what, ArchiveBench x, int files) {
+        due(what + ": open", x.open(), files);
+        due(what + ": place", x.place(), ArchiveBench.REFUSED);
+        due(what + ": open files", x.count(2), files);
+    }
+
+    /** Demands an opening that fails at a place. */
+    static void dueEnd(String what, ArchiveBench x, int answer, int place) {
         due(what + ": open", x.open(), answer);
         due(what + ": place", x.place(), place);
-        due(what + ": open files", x.count(2), Math.max(answer, 0));
+        due(what + ": open files", x.count(2), 0);
+        due(what + ": a file", x.file(0, 0), ArchiveBench.REFUSED);
+    }
+
+    /** An object with an image of these rows, one behind the other. */
+    static ArchiveBench with(List<?>... rows) {
+        ArchiveBench x = new ArchiveBench();
+        writeImage(x, joined(rows));
+        return x;
+    }
+
+    static List<Integer> changed(List<Integer> row, int i, int b) {
+        List<Integer> made = joined(row);
+        made.set(i, b);
+        return made;
     }
 
     static List<Integer> list(int... bytes) {
         List<Integer> made = new ArrayList<>();
         for (int b : bytes) {
             made.add(b);
+        }
+        return made;
+    }
+
+    /** 0, 1, 2 and so on: a row in which no byte comes twice. */
+    static List<Integer> counting(int n) {
+        List<Integer> made = new ArrayList<>();
+        for (int i = 0; i < n; i++) {
+            made.add(i);
+        }
+        return made;
+    }
+
+    static int[] array(List<Integer> bytes) {
+        int[] made = new int[bytes.size()];
+        for (int i = 0; i < made.length; i++) {
+            made[i] = bytes.get(i);
         }
         return made;
     }

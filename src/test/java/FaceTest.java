@@ -16,6 +16,9 @@ public final class FaceTest {
     }
 
     private static void constants() throws IllegalAccessException {
+        Bench.sentence(Bench.TERMS, "The constants: `CUT = -3`, `STRANGE = -4`: What an image may come to. "
+                + "`SPOILED = -5`, `UNSAFE = -6`, `WRONG = -7`, `TWICE = -8`: What taking out a file may come to. "
+                + "`CHAIN = 0`, `INDEX = 1`: Forms.");
         List<String> seen = new ArrayList<>();
         for (Field field : ArchiveBench.class.getDeclaredFields()) {
             if (Modifier.isPrivate(field.getModifiers())) {
