@@ -46,7 +46,7 @@ public final class PackTest {
         ArchiveBench x = withLast(40);
         Bench.due("an index of 600", x.pack(1), 600);
         Bench.due("length", x.count(1), 600);
-        Bench.due("the last byte but one", x.image(598) >= 0 ? 1 : 0, 1);
+        Bench.due("there is a last byte", x.image(599) >= 0 ? 1 : 0, 1);
         Bench.due("a byte more", x.image(600), ArchiveBench.REFUSED);
         Bench.due("put of a byte more", x.put(600, 1), ArchiveBench.FULL);
         Bench.dueOpen("an index of 600", x, 5);
@@ -242,7 +242,7 @@ public final class PackTest {
         Bench.due("a chain of 597", x.pack(0), 597);
         Bench.dueOpen("the chain", x, 5);
         Bench.due("take", x.take(4), 42);
-        // Six files of 120: the longest draft there is; 423 calls, then FULL twice.
+        // Six files of 120 make the longest images that could be asked for.
         x = new ArchiveBench();
         for (int i = 0; i < 6; i++) {
             writeGrown(x);

@@ -109,7 +109,7 @@ public final class WritingTest {
         Bench.due("bytes written", x.count(4), 60);
         Bench.writeName(x, "a");
         dueFile(x, "a", Bench.joined(Bench.list(1), Bench.times(2, 58), Bench.list(3)));
-        Bench.due("59 and one are not more", new ArchiveBench().data(1, 59) + x.data(1, 60), 119);
+        Bench.due("sixty at once are not more", x.data(1, 60), 60);
     }
 
     private static void howManyBytes() {
@@ -184,7 +184,8 @@ public final class WritingTest {
         // Twelve bytes each, and the end.
         Bench.due("pack", x.pack(0), 73);
         Bench.due("open", x.open(), 6);
-        Bench.due("take the last", x.take(0), 1);
+        Bench.due("take the first", x.take(0), 1);
+        Bench.due("its byte", x.taken(0), 0);
         dueFile(x, "bc", Bench.list(1, 1, 1));
     }
 
