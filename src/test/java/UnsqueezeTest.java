@@ -159,6 +159,13 @@ public final class UnsqueezeTest {
         for (int file = 0; file < due.length; file++) {
             Bench.due("take " + file, x.take(file), due[file]);
         }
+        List<Integer> data = Bench.joined(Bench.list(31), Bench.counting(60));
+        for (int many = 1; many <= 33; many++) {
+            directory = Bench.entry(COPIES, "a", 1, many, 32, Bench.check(Bench.counting(32)));
+            x = Bench.with(Bench.index(data, directory, 1));
+            Bench.due("open", x.open(), 1);
+            Bench.due(many + " of 33", x.take(0), many == 33 ? 32 : ArchiveBench.SPOILED);
+        }
     }
 
     private static void distances() {
